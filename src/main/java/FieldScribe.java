@@ -257,10 +257,6 @@ public final class FieldScribe {
         return text.at(place);
     }
 
-    private static boolean isDigit(char sign) {
-        return sign >= '0' && sign <= '9';
-    }
-
     /** Where a character stands when texts compare: unlike in ASCII, "-" is before the comma. */
     private static int rankOf(char sign) {
         switch (sign) {
@@ -387,9 +383,13 @@ public final class FieldScribe {
 
         /** Becomes the number in decimal digits; taken as a long, since the least int has no opposite. */
         void write(int number) {
-            long rest = number < 0 ? -(long) number : number;
-            signs[0] = '-';
-            length = number < 0 ? 1 : 0;
+            long rest = number;
+            length = 0;
+            if (rest < 0) {
+                rest = -rest;
+                signs[0] = '-';
+                length = 1;
+            }
             for (long unit = 1000000000L; unit > 0; unit /= 10) {
                 if ((rest >= unit || unit == 1) && length < signs.length) {
                     signs[length] = (char) ('0' + rest / unit % 10);
@@ -400,9 +400,9 @@ public final class FieldScribe {
 
         /** How many characters the number takes that the text begins with; 0 if there is none. */
         private int numberLength() {
-            int start = at(0) == '-' ? 1 : 0;
+            int start = length > 0 && signs[0] == '-' ? 1 : 0;
             int stop = start;
-            while (stop < length && stop < start + MAX_DIGITS && isDigit(signs[stop])) {
+            while (stop < length && stop < start + MAX_DIGITS && signs[stop] >= '0' && signs[stop] <= '9') {
                 stop++;
             }
             return stop > start ? stop : 0;

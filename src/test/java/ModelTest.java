@@ -3,7 +3,7 @@ import java.util.Random;
 
 /** Runs of calls made by a fixed seed, answered by the program (tree, stack, both in turn) and by the model alike. */
 public final class ModelTest {
-    private static final int RUNS = 6000;
+    private static final int RUNS = 2000;
     private static final int CALLS = 512;
     private static final String[] READERS = {
         "fields", "number", "character", "rows", "row", "key", "lines", "line", "faults",

@@ -104,6 +104,13 @@ public final class ResultsTest {
         check.same("the order then", Check.key(scribe, 0) + Check.key(scribe, 17) + Check.key(scribe, 18)
                 + Check.key(scribe, 19), "1181920");
         check.same("its expression is not found", scribe.faults(), 0);
+        FieldScribe goingOn = new FieldScribe();
+        goingOn.rule(0, 0, 0);
+        goingOn.act(0, 3, 1, 0, 0, 0);
+        goingOn.act(0, 2, 0, 0, 8, 0);
+        goingOn.rule(0, 0, 0);
+        check.same("the rules behind a dropping one", Check.enter(goingOn, "a"), 3);
+        check.same("the actions behind a dropping one", Check.lines(goingOn), "8;");
     }
 
     private void growingTooFar() {
@@ -266,6 +273,7 @@ public final class ResultsTest {
         scribe.act(0, 2, 0, 3, -2, -3);
         scribe.end();
         Check.enter(scribe, "007 2x 3 4 5 6 7 8 9 a b c d");
+        check.same("neither joining nor a small result is a fault", scribe.faults(), 0);
         check.same("operands", Check.lines(scribe), "09999;;01;;0;0;"
                 + "09999;007 2x 3 4 5 6 7 8 9 a b c dc d;122;b007;9;14;");
     }
