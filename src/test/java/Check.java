@@ -4,6 +4,10 @@ final class Check {
         long answer();
     }
 
+    static final Class<?> INDEX = IndexOutOfBoundsException.class;
+    static final Class<?> ARGUMENT = IllegalArgumentException.class;
+    static final Class<?> STATE = IllegalStateException.class;
+
     private final String test;
     private int checks;
     private int wrong;
@@ -15,14 +19,14 @@ final class Check {
     void same(String what, long got, long want) {
         checks++;
         if (got != want) {
-            tell(what + " answered " + got + ", due is " + want);
+            fail(what + " answered " + got + ", due is " + want);
         }
     }
 
     void same(String what, String got, String want) {
         checks++;
         if (!got.equals(want)) {
-            tell(what + " answered \"" + got + "\", due is \"" + want + "\"");
+            fail(what + " answered \"" + got + "\", due is \"" + want + "\"");
         }
     }
 
@@ -31,7 +35,7 @@ final class Check {
         checks++;
         String got = outcome(call);
         if (!got.equals("throws." + kind.getSimpleName())) {
-            tell(what + " answered " + got + ", due is throws." + kind.getSimpleName());
+            fail(what + " answered " + got + ", due is throws." + kind.getSimpleName());
         }
     }
 
@@ -49,7 +53,15 @@ final class Check {
         }
     }
 
-    private void tell(String message) {
+    int count() {
+        return checks;
+    }
+
+    boolean holds() {
+        return wrong == 0;
+    }
+
+    void fail(String message) {
         wrong++;
         if (wrong <= 50) {
             System.out.println(test + ": " + message);
@@ -81,9 +93,18 @@ final class Check {
         }
     }
 
+    /** Answers what end() answers. */
     static int enter(FieldScribe scribe, String text) {
         type(scribe, text);
         return scribe.end();
+    }
+
+    /** A language whose rule 0, for each record, has that one action. */
+    static FieldScribe withAction(int kind, int field, int operation, int x, int y) {
+        FieldScribe scribe = new FieldScribe();
+        scribe.rule(0, 0, 0);
+        scribe.act(0, kind, field, operation, x, y);
+        return scribe;
     }
 
     private interface Reader {
