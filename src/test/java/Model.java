@@ -25,7 +25,7 @@ final class Model {
     private int faults;
 
     /** The answer of a call, told by its name; throws.Name for an exception. */
-    String call(String name, int[] a) {
+    String call(String name, int... a) {
         switch (name) {
             case "rule":
                 return rule(a);
@@ -66,22 +66,6 @@ final class Model {
             default:
                 throw new IllegalStateException(name);
         }
-    }
-
-    String state() {
-        StringBuilder text = new StringBuilder().append(fields().length);
-        for (int field = 0; field <= 12; field++) {
-            text.append('|').append(field(field));
-        }
-        text.append('/');
-        for (int row = 0; row < keys.size(); row++) {
-            text.append(keys.get(row)).append('=').append(sums.get(row)).append(';');
-        }
-        text.append('/');
-        for (String line : lines) {
-            text.append(line).append(';');
-        }
-        return text.append('/').append(faults).toString();
     }
 
     private static boolean outside(int value, int least, int most) {

@@ -1,10 +1,17 @@
+import java.util.ArrayList;
 import java.util.Arrays;
+import java.util.List;
 import java.util.Random;
 
-/** Runs of calls made by a fixed seed, answered by the program (tree, stack, both in turn) and by the model alike. */
+/**
+ * Runs of calls made by a fixed seed, answered by the program (tree, stack, both in turn) and by the model alike.
+ * No object is asked more than 512 times: what is read behind a run is read from objects that made the run anew.
+ */
 public final class ModelTest {
     private static final int RUNS = 2000;
     private static final int CALLS = 512;
+    private static final int LOOKS = 8;
+    private static final int LATEST_LOOK = 400;
     private static final String[] READERS = {
         "fields", "number", "character", "rows", "row", "key", "lines", "line", "faults",
     };
@@ -13,13 +20,13 @@ public final class ModelTest {
     };
 
     private final Random random;
-    private final Model model = new Model();
-    private final FieldScribe scribe = new FieldScribe();
+    private final int machine;
     private final int favourite;
     private final int letters;
 
     private ModelTest(int seed) {
         random = new Random(seed);
+        machine = seed % 3;
         favourite = random.nextInt(4);
         letters = 1 + random.nextInt(6);
     }
@@ -27,68 +34,101 @@ public final class ModelTest {
     public static void main(String[] args) {
         Check all = new Check("ModelTest");
         for (int seed = 1; seed <= RUNS; seed++) {
-            all.same("run " + seed + ", first wrong call", new ModelTest(seed).run(seed), "");
+            all.same("run " + seed + ", first wrong call", new ModelTest(seed).run(), "");
         }
         all.finish();
     }
 
-    private String run(int seed) {
+    private String run() {
+        List<Step> steps = new ArrayList<>();
         for (int count = 1; count <= CALLS; count++) {
-            String name = pickName(count);
-            int[] arguments = pickArguments(name);
-            if (random.nextInt(60) == 0 && arguments.length > 0) {
-                arguments[random.nextInt(arguments.length)] = WILD[random.nextInt(WILD.length)];
-            }
-            boolean is = seed % 3 == 1 || seed % 3 == 2 && random.nextBoolean();
-            if (name.equals("useStack")) {
-                scribe.useStack(is);
-                continue;
-            }
-            String got = Check.outcome(() -> call(name, arguments));
-            String want = model.call(name, arguments);
+            steps.add(pickStep(count));
+        }
+        String wrong = play(steps);
+        for (int look = 0; look < LOOKS && wrong.isEmpty(); look++) {
+            wrong = lookBehind(steps.subList(0, 1 + random.nextInt(LATEST_LOOK)));
+        }
+        return wrong;
+    }
+
+    /** Answers the first call that a new object answers otherwise than the model; nothing if there is none. */
+    private static String play(List<Step> steps) {
+        FieldScribe scribe = new FieldScribe();
+        Model model = new Model();
+        int count = 0;
+        for (Step step : steps) {
+            count++;
+            String got = Check.outcome(() -> step.answer(scribe));
+            String want = model.call(step.name(), step.arguments());
             if (!got.equals(want)) {
-                return count + ". " + name + Arrays.toString(arguments) + ": " + got + ", due is " + want;
-            }
-            if ((name.equals("end") || count == CALLS) && !Check.state(scribe).equals(model.state())) {
-                return count + ". state " + Check.state(scribe) + ", due is " + model.state();
+                return count + ". " + step.name() + Arrays.toString(step.arguments()) + ": " + got + ", due is " + want;
             }
         }
         return "";
     }
 
-    private long call(String name, int[] a) {
-        switch (name) {
-            case "rule":
-                return scribe.rule(a[0], a[1], a[2]);
-            case "act":
-                return scribe.act(a[0], a[1], a[2], a[3], a[4], a[5]);
-            case "setSeparator":
-                return scribe.setSeparator(a[0]);
-            case "type":
-                return scribe.type(a[0]);
-            case "end":
-                return scribe.end();
-            case "setField":
-                return scribe.setField(a[0], a[1]);
-            case "fields":
-                return scribe.fields();
-            case "number":
-                return scribe.number(a[0]);
-            case "character":
-                return scribe.character(a[0], a[1]);
-            case "rows":
-                return scribe.rows();
-            case "row":
-                return scribe.row(a[0]);
-            case "key":
-                return scribe.key(a[0], a[1]);
-            case "lines":
-                return scribe.lines();
-            case "line":
-                return scribe.line(a[0], a[1]);
-            default:
-                return scribe.faults();
+    /** Reads all that can be read behind the steps, from as many objects as it takes. */
+    private static String lookBehind(List<Step> steps) {
+        List<Step> readings = readingsBehind(steps);
+        int room = CALLS - steps.size();
+        String wrong = "";
+        for (int from = 0; from < readings.size() && wrong.isEmpty(); from += room) {
+            List<Step> whole = new ArrayList<>(steps);
+            whole.addAll(readings.subList(from, Math.min(from + room, readings.size())));
+            wrong = play(whole);
         }
+        return wrong;
+    }
+
+    private static List<Step> readingsBehind(List<Step> steps) {
+        Model model = new Model();
+        for (Step step : steps) {
+            model.call(step.name(), step.arguments());
+        }
+        List<Step> readings = new ArrayList<>();
+        for (String name : new String[] {"fields", "rows", "lines", "faults"}) {
+            readings.add(new Step(name));
+        }
+        addEach(readings, model, "number");
+        addEach(readings, model, "row");
+        addEachSign(readings, model, "character");
+        addEachSign(readings, model, "key");
+        addEachSign(readings, model, "line");
+        return readings;
+    }
+
+    /** The reading of each place from 0 on; the last one, behind them all, is refused. */
+    private static void addEach(List<Step> readings, Model model, String name, int... before) {
+        boolean refused = false;
+        for (int place = 0; !refused; place++) {
+            int[] arguments = Arrays.copyOf(before, before.length + 1);
+            arguments[before.length] = place;
+            readings.add(new Step(name, arguments));
+            refused = isRefused(model, name, arguments);
+        }
+    }
+
+    private static void addEachSign(List<Step> readings, Model model, String name) {
+        int count = name.equals("character") ? 13 : Integer.parseInt(model.call(name.equals("key") ? "rows" : "lines"));
+        for (int index = 0; index <= count; index++) {
+            addEach(readings, model, name, index);
+        }
+    }
+
+    private static boolean isRefused(Model model, String name, int... arguments) {
+        return model.call(name, arguments).startsWith("throws.");
+    }
+
+    private Step pickStep(int count) {
+        String name = pickName(count);
+        if (name.equals("useStack")) {
+            return new Step(name, machine == 2 ? random.nextInt(2) : machine);
+        }
+        int[] arguments = pickArguments(name);
+        if (random.nextInt(60) == 0 && arguments.length > 0) {
+            arguments[random.nextInt(arguments.length)] = WILD[random.nextInt(WILD.length)];
+        }
+        return new Step(name, arguments);
     }
 
     private String pickName(int count) {
